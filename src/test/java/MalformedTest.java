@@ -22,6 +22,7 @@ final class MalformedTest {
         test.icmp();
         test.errors();
         test.times();
+        test.wordsOfBeforeDoNotCount();
         test.nothingElseChanges();
         test.check.end();
     }
@@ -54,7 +55,6 @@ final class MalformedTest {
                 due("kind " + kind, Packets.with(UDP, 4, 64 << 8 | kind), 1);
             }
         }
-        // Sums of the header that are 65535 more or less are still the same sum, 0 is not.
         due("w5 not the checksum", Packets.broken(UDP, 5, UDP[5] ^ 1), 1);
     }
 
@@ -69,7 +69,7 @@ final class MalformedTest {
 
     private void tcp() {
         due("TCP", TCP, 0);
-        due("TCP with an odd last word", Packets.resized(TCP, 21), 0);
+        due("TCP of 21 words", Packets.resized(TCP, 21), 0);
         due("TCP of 19 words", Packets.resized(TCP, 19), 1);
         due("TCP with w16 / 4096 4", Packets.with(TCP, 16, 4 << 12 | Packets.SYN), 1);
         due("TCP with w16 / 4096 6", Packets.with(TCP, 16, 6 << 12 | Packets.SYN), 1);
@@ -136,6 +136,27 @@ final class MalformedTest {
         }
         due("time 1, malformed", Packets.broken(Packets.with(UDP, 4, 1 << 8 | 17), 10, 1), 1);
         due("time 1, from outside", Packets.with(BACK, 4, 1 << 8 | 17), 3);
+    }
+
+    /** A draft that is too short stays so, whatever an earlier one had behind its end. */
+    private void wordsOfBeforeDoNotCount() {
+        check.due("UDP of 13 words, on a new object",
+                Packets.route(new PortTranslator(), true, Packets.resized(UDP, 13)), 1);
+        int[][] packets = {UDP, TCP, ECHO, ERROR};
+        int[] least = {14, 20, 14, 28};
+        for (int k = 0; k < packets.length; k++) {
+            PortTranslator x = new PortTranslator();
+            Packets.route(x, true, UDP);
+            Packets.route(x, true, packets[k]);
+            Packets.feed(x, packets[k]);
+            x.scrap();
+            check.due("the first " + (least[k] - 1) + " words",
+                    Packets.route(x, true, Arrays.copyOf(packets[k], least[k] - 1)), 1);
+            Packets.feed(x, packets[k]);
+            x.scrap();
+            check.due((least[k] - 1) + " words",
+                    Packets.route(x, true, Packets.resized(packets[k], least[k] - 1)), 1);
+        }
     }
 
     private void nothingElseChanges() {

@@ -15,6 +15,7 @@ final class SendOutTest {
         SendOutTest test = new SendOutTest();
         test.packetsAreTranslated();
         test.checksumOfUdpIsNever0();
+        test.checksumsWithTwoCarries();
         test.addresses();
         test.newFlows();
         test.portsAndFlowsRunOut();
@@ -49,6 +50,21 @@ final class SendOutTest {
         check.due("route(true)", Packets.route(x, true, packet), 0);
         check.due("at(13) where 0 is the checksum", x.at(13), 65535);
         check.due("the body agrees", Packets.sum(Packets.latest(x), 6, 15, -1, 17 + 10), 65535);
+    }
+
+    /** Words whose plain sum ends in 16 bits 1 have a sum that is carried twice. */
+    private void checksumsWithTwoCarries() {
+        int[] plain = Packets.udp(OWN, 40000, SERVER, 53, 0, 65535, 65535);
+        int total = 17 + plain[12];
+        for (int i = 6; i < plain.length; i++) {
+            total += i == 13 ? 0 : plain[i];
+        }
+        int last = 65535 - (total & 65535);
+        PortTranslator x = new PortTranslator();
+        Packets.route(x, true, Packets.udp(HOST, 5000, SERVER, 53, last, 65535, 65535));
+        Packets.dueLatest(check, "carried twice", x,
+                Packets.udp(OWN, 40000, SERVER, 53, last, 65535, 65535));
+        check.due("its checksum is 65535 - what was carried", x.at(13), 65535 - ((total + last) >> 16));
     }
 
     private void addresses() {
@@ -111,6 +127,7 @@ final class SendOutTest {
             check.due("binding " + i, Packets.route(x, true, Packets.udp(HOST, 100 + i, SERVER, 53)), 0);
             check.due("own port " + i, x.flow(i, 5), 40000 + i);
         }
+        check.due("bindings(17)", x.bindings(17), 6);
         check.due("one binding too many",
                 Packets.route(x, true, Packets.udp(HOST, 200, SERVER, 53)), 6);
         check.due("the same port of another host",
@@ -133,6 +150,11 @@ final class SendOutTest {
         check.due("a flow that there is",
                 Packets.route(x, true, Packets.udp(HOST, 103, SERVER, 54)), 0);
         check.due("flows()", x.flows(), 12);
+        Packets.route(x, true, Packets.tcp(HOST, 1, SERVER, 2, Packets.RST));
+        check.due("flows() when one of all ended", x.flows(), 11);
+        check.due("one flow more then", Packets.route(x, true, Packets.udp(HOST, 103, SERVER, 55)), 0);
+        check.due("tick(7) with all flows", x.tick(7), 4);
+        check.due("flows() after that", x.flows(), 8);
     }
 
     private void leastFreePort() {
@@ -154,6 +176,14 @@ final class SendOutTest {
         Packets.route(x, true, Packets.tcp(HOST, 10, SERVER, 81, Packets.RST));
         Packets.route(x, true, Packets.tcp(HOST, 10, SERVER, 82, Packets.SYN));
         check.due("a port no longer bound is free", x.flow(x.flows() - 1, 5), 40000);
+
+        PortTranslator y = new PortTranslator();
+        Packets.route(y, true, Packets.tcp(HOST, 10, SERVER, 80, Packets.SYN));
+        Packets.route(y, true, Packets.tcp(HOST, 11, SERVER, 80, Packets.SYN));
+        Packets.route(y, true, Packets.tcp(HOST, 10, SERVER, 80, Packets.RST));
+        Packets.route(y, true, Packets.tcp(HOST, 11, SERVER, 80, Packets.RST));
+        Packets.route(y, true, Packets.tcp(HOST, 11, SERVER, 80, Packets.SYN));
+        check.due("a binding ends with its last flow", y.flow(0, 5), 40000);
     }
 
     private void draftIsEmptyThen() {
