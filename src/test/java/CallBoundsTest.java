@@ -90,7 +90,7 @@ final class CallBoundsTest {
             for (int n = 1; n <= 4; n++) {
                 if (begun + n > 48) {
                     for (Twins some : new Twins[] {fresh, busy, full}) {
-                        some.dueFalse("put(" + n + ", ..) behind " + begun, longest, begun, n, 7);
+                        some.dueFalse("put(" + n + ", ..) behind " + begun, longest, begun, n, -1);
                     }
                 } else {
                     PortTranslator x = new PortTranslator();

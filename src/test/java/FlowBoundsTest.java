@@ -29,6 +29,8 @@ final class FlowBoundsTest {
         test.tcpLifeChanges();
         test.ageIsThatOfTheLastPacket();
         test.severalEndInOneTick();
+        test.firstMiddleAndLastOf12End();
+        test.newFlowHasNothingOfThePast();
         test.check.end();
     }
 
@@ -52,6 +54,7 @@ final class FlowBoundsTest {
             for (int i = 0; i < 12; i++) {
                 begin(x, kind, 5, SERVER + i);
             }
+            x.tick(1);
         });
         check.due("flows()", twelve.made().flows(), 12);
         check.due("bindings(" + kind + ")", twelve.made().bindings(kind), 1);
@@ -72,6 +75,7 @@ final class FlowBoundsTest {
                 begin(x, kind, 5 + i, SERVER);
             }
         }
+        x.tick(1);
     }
 
     private void atMost12FlowsOfAllKinds() {
@@ -88,7 +92,10 @@ final class FlowBoundsTest {
     private void sixBindings(int kind) {
         Twins five = new Twins(check, x -> beginMany(x, kind, 5));
         five.due("the 6th binding of kind " + kind, true, Scenes.first(kind, HOST, 105, SERVER, 9), 0);
-        Twins six = new Twins(check, x -> beginMany(x, kind, 6));
+        Twins six = new Twins(check, x -> {
+            beginMany(x, kind, 6);
+            x.tick(1);
+        });
         check.due("bindings(" + kind + ")", six.made().bindings(kind), 6);
         six.due("the 7th binding", true, Scenes.first(kind, HOST, 106, SERVER, 9), 6);
         six.due("the 7th binding, of another host", true, Scenes.first(kind, OTHER_HOST, 100, SERVER, 9), 6);
@@ -346,5 +353,44 @@ final class FlowBoundsTest {
         check.due("tick(1)", x.tick(1), 3);
         check.due("flows() at last", x.flows(), 0);
         check.due("tick(100) of none", x.tick(100), 0);
+    }
+
+    /** With RST the flow ends: the others stay, in the order in which they began. */
+    private void firstMiddleAndLastOf12End() {
+        for (int ended : new int[] {0, 1, 5, 10, 11}) {
+            PortTranslator x = new PortTranslator();
+            for (int i = 0; i < 12; i++) {
+                begin(x, 6, 5, SERVER + i);
+            }
+            dueRouted("RST", x, true, Packets.tcp(HOST, 5, SERVER + ended, 9, Packets.RST));
+            check.due("flows()", x.flows(), 11);
+            for (int k = 0; k < 11; k++) {
+                check.due("flow(" + k + ", 3)", x.flow(k, 3), SERVER + (k < ended ? k : k + 1));
+            }
+            begin(x, 6, 5, SERVER + ended);
+            check.due("flow(11, 3), begun anew", x.flow(11, 3), SERVER + ended);
+        }
+    }
+
+    /** However much happened to the flow that was there before it. */
+    private void newFlowHasNothingOfThePast() {
+        for (int kind : KINDS) {
+            for (boolean byReset : new boolean[] {true, false}) {
+                PortTranslator x = after(Scenes.tcpOut(Packets.SYN), Scenes.tcpIn(Packets.SYN | Packets.ACK),
+                        Scenes.tcpOut(Packets.FIN), Scenes.tcpIn(Packets.FIN));
+                check.due("flow(0, 7)", x.flow(0, 7), 7);
+                x.tick(9);
+                if (byReset) {
+                    dueRouted("RST", x, false, Scenes.tcpIn(Packets.RST));
+                } else {
+                    check.due("tick(4)", x.tick(4), 1);
+                }
+                begin(x, kind, 5, SERVER);
+                int[] due = {kind, HOST, 5, SERVER, kind == 1 ? 0 : 9, 40000, 0, 0};
+                for (int which = 0; which < 8; which++) {
+                    check.due("flow(0, " + which + ") of a new one", x.flow(0, which), due[which]);
+                }
+            }
+        }
     }
 }

@@ -16,11 +16,17 @@ final class Scenes {
         check(x.flows() == 0);
     }
 
-    /** A flow of each kind from HOST to SERVER, all with the own port 40000, and no rules. */
+    /**
+     * A flow of each kind from HOST to SERVER, all with the own port 40000, and no rules. No age is
+     * 0, so that a call which makes one so can be seen.
+     */
     static void oneOfEach(PortTranslator x) {
         must(x, true, udpOut());
+        x.tick(1);
         must(x, true, tcpOut(Packets.SYN));
+        x.tick(1);
         must(x, true, echoOut(Packets.REQUEST));
+        x.tick(1);
     }
 
     /** A flow of each kind, ages and flags that are not 0, and the rules 1 and 2. */

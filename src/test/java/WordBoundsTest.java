@@ -191,6 +191,7 @@ final class WordBoundsTest {
         for (int i = 0; i < 6; i++) {
             Packets.route(x, true, Scenes.first(kind, HOST, 100 + i, SERVER, 9));
         }
+        x.tick(2);
     }
 
     private void ownPortsAreAllThatComesIn() {
